@@ -73,10 +73,13 @@ public final class DecodeTest {
         }
     }
 
+    /** By any A, so that any sum stands where the byte lacks. */
     private static void lacks(int... records) {
         for (int n = 1; n < records.length; n++) {
-            int[] part = java.util.Arrays.copyOf(records, n);
-            Check.dueFault(Check.text(part), 4, 19 + n, Check.answer(part));
+            int[] data = Check.join(new int[12], java.util.Arrays.copyOf(records, n));
+            for (int a = 0; a < (n < 12 ? 256 : 1); a++) {
+                Check.dueFault(Check.text(data) + "with A " + a, 4, 19 + n, Check.longFrame(0x08, a, 0x72, data));
+            }
         }
         MeterBus x = new MeterBus();
         Check.due(Check.text(records), Check.decode(x, Check.answer(records)), 1);
@@ -106,6 +109,7 @@ public final class DecodeTest {
         Check.due("10 DIFEs", Check.decode(x, Check.answer(Check.join(Check.repeat(10, 0x80),
                 Check.bytes(0x00, 0x13)))), 1);
         Check.dueFault("11 DIFEs", 5, 30, Check.answer(Check.join(Check.repeat(11, 0x80), Check.bytes(0x00, 0x13))));
+        Check.dueFault("11 DIFEs and no more", 5, 30, Check.answer(Check.repeat(12, 0x80)));
         Check.dueFault("10 DIFEs, and the 11th is not there", 4, 30, Check.answer(Check.repeat(11, 0x80)));
         Check.due("10 VIFEs", Check.decode(x, Check.answer(Check.join(Check.bytes(0x00), Check.repeat(10, 0x80),
                 Check.bytes(0x13)))), 2);
@@ -113,6 +117,8 @@ public final class DecodeTest {
         Check.due("the last VIFE", x.record(1, 17), 0x13);
         Check.dueFault("11 VIFEs", 6, 31, Check.answer(Check.join(Check.bytes(0x00), Check.repeat(11, 0x80),
                 Check.bytes(0x13))));
+        Check.dueFault("11 VIFEs and no more", 6, 31,
+                Check.answer(Check.join(Check.bytes(0x00), Check.repeat(12, 0x80))));
         Check.dueFault("10 VIFEs, and the 11th is not there", 4, 31,
                 Check.answer(Check.join(Check.bytes(0x00), Check.repeat(11, 0x80))));
     }

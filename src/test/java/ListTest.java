@@ -110,6 +110,9 @@ public final class ListTest {
         Check.fill(x);
         Check.due("texts do not need the buffer", x.text(0, 1), 0x42);
         longTexts();
+        MeterBus y = new MeterBus();
+        Check.decode(y, Check.answer(0x0D, 0x13, 0x01, 0x41));
+        Check.due("a text of one byte", y.text(0, 0), 0x41);
     }
 
     private static void longTexts() {
@@ -148,7 +151,8 @@ public final class ListTest {
         Check.decode(x, Check.answer(0x08, 0x13));
         x.clear();
         Check.due("place stays", x.place(), 19);
-        Check.decode(x, Check.answer(0x01, 0x13, 0x05, 0x02, 0x13, 0x05, 0x00));
+        Check.decode(x, Check.answer(0x00, 0x13, 0x02, 0x13, 0x05, 0x00));
+        Check.due("nothing is left of earlier ones", Check.record(x, 0), "0 0 0 0 0 0 1 19");
         Check.due("nothing is left of earlier ones", Check.record(x, 1), "5 2 0 0 0 0 1 19");
     }
 

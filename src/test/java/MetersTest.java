@@ -40,6 +40,9 @@ public final class MetersTest {
     private static void isRefused() {
         MeterBus x = new MeterBus();
         x.meter(3, 5, 0x12, 0x0304, 6, 7);
+        MeterBus y = new MeterBus();
+        y.meter(0, 5, 0x12, 0x0304, 6, 7);
+        refuse(y, Check.ARGUMENT, 11, 5, 0x12, 0x0304, 6, 7);
         for (int k : new int[] {-1, 12, Integer.MAX_VALUE, Integer.MIN_VALUE}) {
             refuse(x, Check.INDEX, k, 1, 1, 1, 1, 1);
             refuse(x, Check.INDEX, k, -1, 1, 1, 1, 1);

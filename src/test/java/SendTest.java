@@ -33,7 +33,9 @@ public final class SendTest {
         return x;
     }
 
+    /** An answered question comes first, so that an old answer, page or bit could be seen. */
     private static void nothing(String what, MeterBus x, int... frame) {
+        Check.due("ask", Check.send(x, Check.shortFrame(0x5B, 254)), 21);
         String before = Check.states(x);
         int frames = x.count(4);
         Check.due(what, Check.send(x, frame), 0);
@@ -246,11 +248,12 @@ public final class SendTest {
             Check.send(x, Check.longFrame(0x53, 253, 0x52, ALL_WILD));
             Check.send(x, Check.shortFrame(0x7B, 1));
             nothing("I 50 with data", x, Check.longFrame(c, 1, 0x50, 0));
+            int access = x.state(0, 6);
             single("I 50", x, Check.longFrame(c, 253, 0x50));
             Check.due("page told", x.state(0, 4), -1);
             Check.due("bit", x.state(0, 5), -1);
             Check.due("selected stays", x.state(0, 2), 1);
-            Check.due("access stays", x.state(0, 6), 1);
+            Check.due("access stays", x.state(0, 6), access);
         }
     }
 
