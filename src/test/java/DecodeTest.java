@@ -220,6 +220,7 @@ public final class DecodeTest {
         Check.dueFault("1 before 2", 1, 1, all);
         all[0] = 0;
         Check.dueFault("0 before 1", 1, 0, all);
+        Check.dueFault("a VIF that lacks before CODE 8", 4, 20, Check.answer(0x08));
         Check.dueFault("an earlier record", 7, 21, Check.answer(0x09, 0x13, 0xAA, 0x08, 0x13));
         Check.dueFault("ident before records", 3, 7, Check.longFrame(0x08, 1, 0x72, 0xAA, 0, 0, 0, 0, 0, 0, 0, 0, 0, 0, 0, 8));
         MeterBus x = new MeterBus();
