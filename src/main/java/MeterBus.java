@@ -199,7 +199,8 @@ public final class MeterBus {
     private void probe(int n, long mask) {
         int comes = bus.putSelect(mask);
         if (comes == 1) {
-            addFound(mask);
+            resetSelected(mask);
+            addFound();
         } else if (comes == COLLISION && n < PARTS) {
             int values = n < DIGIT_PARTS ? DIGIT_VALUES : BYTE_VALUES;
             for (int value = 0; value < values; value++) {
@@ -217,8 +218,7 @@ public final class MeterBus {
         return mask & ~(255L << shift) | (long) value << shift;
     }
 
-    private void addFound(long mask) {
-        resetSelected(mask);
+    private void addFound() {
         int comes = bus.putShort(C_ASK_0, TO_SELECTED);
         if (comes > 0 && foundNumber < METERS) {
             foundAddresses[foundNumber] = bus.lastAnswer().addressAt(DATA_PLACE);

@@ -177,11 +177,18 @@ final class Check {
         for (int what = 0; what < 7 + x.record(i, 6); what++) {
             all.append(x.record(i, what)).append(' ');
         }
-        long code = x.record(i, 1);
-        for (int j = 0; code == 15 && j < x.record(i, 0); j++) {
+        for (int j = 0; hasLetter(x, i, j); j++) {
             all.append(j == 0 ? ": " : " ").append(x.text(i, j));
         }
         return all.toString().trim();
+    }
+
+    private static boolean hasLetter(MeterBus x, int i, int j) {
+        try {
+            return x.text(i, j) >= 0;
+        } catch (IndexOutOfBoundsException e) {
+            return false;
+        }
     }
 
     static String records(MeterBus x) {
@@ -198,6 +205,32 @@ final class Check {
             all.append(x.count(what)).append(' ');
         }
         return all.toString();
+    }
+
+    /** What is seen, and what every meter tells then: this changes the object, so it comes last in a test. */
+    static String told(MeterBus x) {
+        StringBuilder all = new StringBuilder(seen(x));
+        for (int k = 0; k < 12; k++) {
+            if (x.state(k, 0) == 1) {
+                send(x, shortFrame(x.state(k, 5) == 1 ? 0x7B : 0x5B, x.state(k, 1)));
+                all.append("| the page told last of ").append(k).append(": ").append(buffer(x));
+            }
+        }
+        x.search();
+        for (int k = 0; k < x.count(2); k++) {
+            int[] address = new int[8];
+            for (int what = 0; what < 8; what++) {
+                address[what] = x.found(k, what);
+            }
+            send(x, longFrame(0x53, 253, 0x52, address));
+            send(x, shortFrame(0x40, 253));
+            send(x, longFrame(0x53, 253, 0x52, address));
+            for (int i = 0; i < 4; i++) {
+                send(x, shortFrame(i % 2 == 0 ? 0x5B : 0x7B, 253));
+                all.append("| ").append(buffer(x));
+            }
+        }
+        return all.append(seen(x)).toString();
     }
 
     static String seen(MeterBus x) {
