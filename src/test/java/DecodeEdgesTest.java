@@ -9,6 +9,7 @@ public final class DecodeEdgesTest {
         bytesOfTheFrame();
         lengths();
         numberOfBytes();
+        bytesThatWereThere();
         sums();
         identDigits();
         endOfRecords();
@@ -87,6 +88,30 @@ public final class DecodeEdgesTest {
                 }
             }
             Check.due("all bytes", Check.decode(new MeterBus(), good), good.length == 24 ? 1 : 0);
+        }
+    }
+
+    /** "(n, if it is not there)": bytes that were there before, right or wrong, do not count. */
+    private static void bytesThatWereThere() {
+        int[] good = Check.answer(0x01, 0x13, 0x05);
+        for (int n = 0; n < good.length; n++) {
+            for (int b : new int[] {0x00, 0x0F, 0x12, 0x68, 0xFF}) {
+                MeterBus x = new MeterBus();
+                Check.fill(x, Check.join(Arrays.copyOf(good, n), Check.repeat(40, b)));
+                x.keep(n);
+                Check.due(n + " bytes, then " + b, x.decode(), -1);
+                Check.due(n + " bytes, then " + b + ": place", x.place(), n);
+            }
+        }
+        for (int i = 0; i < 4; i++) {
+            MeterBus x = new MeterBus();
+            Check.fill(x, with(good, i, 0));
+            x.keep(i);
+            Check.due("a wrong byte " + i + " that is not kept", x.decode(), -1);
+            Check.due("a wrong byte " + i + " that is not kept: place", x.place(), i);
+            x.keep(0);
+            Check.due("none is kept", x.decode(), -1);
+            Check.due("none is kept: place", x.place(), 0);
         }
     }
 
