@@ -2,16 +2,31 @@ import java.lang.reflect.Constructor;
 import java.lang.reflect.Field;
 import java.lang.reflect.Method;
 import java.lang.reflect.Modifier;
+import java.util.ArrayList;
 import java.util.Arrays;
+import java.util.List;
 import java.util.TreeSet;
 
 /** The public face, the constants, and promise 1. */
 public final class FaceTest {
     private static final String[] METHODS = {
-        "int type(long, int)", "void keep(int)", "int typed(int)", "void meter(int, int, int, int, int, int)",
-        "boolean remove(int)", "int page(int, int)", "int state(int, int)", "int send()", "int search()",
-        "int found(int, int)", "int readOut(int)", "int decode()", "int place()", "int clear()",
-        "long record(int, int)", "int text(int, int)", "int count(int)"};
+        "int type(long, int) throws IllegalArgumentException, UnsupportedOperationException",
+        "void keep(int) throws IllegalArgumentException",
+        "int typed(int) throws IndexOutOfBoundsException",
+        "void meter(int, int, int, int, int, int) throws IndexOutOfBoundsException, IllegalArgumentException",
+        "boolean remove(int) throws IndexOutOfBoundsException",
+        "int page(int, int) throws IndexOutOfBoundsException, UnsupportedOperationException",
+        "int state(int, int) throws IndexOutOfBoundsException",
+        "int send()",
+        "int search()",
+        "int found(int, int) throws IndexOutOfBoundsException",
+        "int readOut(int) throws IndexOutOfBoundsException",
+        "int decode()",
+        "int place()",
+        "int clear()",
+        "long record(int, int) throws IndexOutOfBoundsException",
+        "int text(int, int) throws IndexOutOfBoundsException",
+        "int count(int) throws IndexOutOfBoundsException"};
 
     public static void main(String[] args) {
         Check.due("public and final", Check.bit(Modifier.isFinal(MeterBus.class.getModifiers())
@@ -19,20 +34,31 @@ public final class FaceTest {
         Check.due("NONE", MeterBus.NONE, -1);
         Check.due("COLLISION", MeterBus.COLLISION, -2);
         Check.due("the methods", methods().toString(), new TreeSet<>(Arrays.asList(METHODS)).toString());
-        Check.due("the fields", fields().toString(), "[COLLISION, NONE]");
+        Check.due("the fields", fields().toString(), "[public static final int COLLISION, public static final int NONE]");
         Constructor<?>[] constructors = MeterBus.class.getDeclaredConstructors();
         Check.due("constructors", constructors.length, 1);
-        Check.due("its parameters", constructors[0].getParameterCount(), 0);
+        Check.due("it", constructors[0].toString(), "public MeterBus()");
         newObject();
         Check.end();
     }
 
+    private static String names(Class<?>... types) {
+        List<String> names = new ArrayList<>();
+        for (Class<?> type : types) {
+            names.add(type.getSimpleName());
+        }
+        return String.join(", ", names);
+    }
+
+    /** All that are not private; each of them has to be public, and an object's own. */
     private static TreeSet<String> methods() {
         TreeSet<String> names = new TreeSet<>();
         for (Method m : MeterBus.class.getDeclaredMethods()) {
             if (!Modifier.isPrivate(m.getModifiers()) && !m.isSynthetic()) {
-                String types = Arrays.toString(m.getParameterTypes());
-                names.add(m.getReturnType() + " " + m.getName() + "(" + types.substring(1, types.length() - 1) + ")");
+                String thrown = names(m.getExceptionTypes());
+                names.add(m.getReturnType() + " " + m.getName() + "(" + names(m.getParameterTypes()) + ")"
+                        + (thrown.isEmpty() ? "" : " throws " + thrown));
+                Check.due(m.getName(), Modifier.toString(m.getModifiers()), "public");
             }
         }
         return names;
@@ -42,7 +68,7 @@ public final class FaceTest {
         TreeSet<String> names = new TreeSet<>();
         for (Field f : MeterBus.class.getDeclaredFields()) {
             if (!Modifier.isPrivate(f.getModifiers()) && !f.isSynthetic()) {
-                names.add(f.getName());
+                names.add(Modifier.toString(f.getModifiers()) + " " + f.getType() + " " + f.getName());
             }
         }
         return names;
